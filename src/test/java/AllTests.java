@@ -1,0 +1,25 @@
+/** Runs every test of the project; ends with exit code 1 if one fails. */
+final class AllTests {
+    private AllTests() {
+    }
+
+    public static void main(String[] args) {
+        run("FaceTest", FaceTest::all);
+        run("ScriptTest", ScriptTest::all);
+        System.out.println(Check.passed() + " passed, " + Check.failed() + " failed");
+        if (Check.failed() > 0) {
+            System.exit(1);
+        }
+    }
+
+    private static void run(String name, Runnable test) {
+        int before = Check.failed();
+        try {
+            test.run();
+        } catch (RuntimeException exception) {
+            exception.printStackTrace(System.out);
+            Check.broken(name + " ended with " + exception);
+        }
+        System.out.println(name + (Check.failed() == before ? " holds" : " is BROKEN"));
+    }
+}
