@@ -869,7 +869,6 @@ public final class Runbooker {
                 wasBegun[step] = false;
                 states[step] = wasOff[step] ? STATE_OFF : STATE_WAITING;
                 tries[step] = 0;
-                worked[step] = 0;
             }
         }
 
@@ -955,7 +954,7 @@ public final class Runbooker {
         }
     }
 
-    /** Who hands over to whom, and until when; NONE hands over while there is no handover. */
+    /** Who hands over to whom, and until when; without a handover both are NONE. */
     private static final class Handover {
         int from = NONE;
         int to = NONE;
@@ -966,11 +965,11 @@ public final class Runbooker {
         }
 
         boolean isFrom(int person) {
-            return isOn() && from == person;
+            return from == person;
         }
 
         boolean involves(int person) {
-            return isOn() && (from == person || to == person);
+            return from == person || to == person;
         }
 
         void open(int giver, int taker, int lastMinute) {

@@ -6,6 +6,8 @@ final class AllTests {
     public static void main(String[] args) {
         run("FaceTest", FaceTest::all);
         run("ScriptTest", ScriptTest::all);
+        run("WalkTest", WalkTest::all);
+        run("LongTest", LongTest::all);
         System.out.println(Check.passed() + " passed, " + Check.failed() + " failed");
         if (Check.failed() > 0) {
             System.exit(1);

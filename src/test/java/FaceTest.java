@@ -24,6 +24,9 @@ final class FaceTest {
         for (Field field : Runbooker.class.getDeclaredFields()) {
             Check.same("field " + field.getName() + " is private", true, Modifier.isPrivate(field.getModifiers()));
         }
+        TreeSet<String> publicNames = methodNames(true);
+        publicNames.retainAll(methodNames(false));
+        Check.same("private methods with the name of a public one", new TreeSet<String>(), publicNames);
         for (Class<?> inside : Runbooker.class.getDeclaredClasses()) {
             Check.same(inside.getName() + " is static", true, Modifier.isStatic(inside.getModifiers()));
             Check.same(inside.getName() + " is not public", false, Modifier.isPublic(inside.getModifiers()));
@@ -63,6 +66,16 @@ final class FaceTest {
             }
         }
         return found;
+    }
+
+    private static TreeSet<String> methodNames(boolean isPublic) {
+        TreeSet<String> names = new TreeSet<>();
+        for (Method method : Runbooker.class.getDeclaredMethods()) {
+            if (Modifier.isPublic(method.getModifiers()) == isPublic) {
+                names.add(method.getName());
+            }
+        }
+        return names;
     }
 
     private static String constructors() {
