@@ -6,6 +6,7 @@ final class AllTests {
     public static void main(String[] args) {
         run("FaceTest", FaceTest::all);
         run("ScriptTest", ScriptTest::all);
+        run("EdgeTest", EdgeTest::all);
         run("WalkTest", WalkTest::all);
         run("LongTest", LongTest::all);
         System.out.println(Check.passed() + " passed, " + Check.failed() + " failed");

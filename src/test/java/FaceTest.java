@@ -1,18 +1,14 @@
-import java.io.IOException;
-import java.io.UncheckedIOException;
 import java.lang.reflect.Constructor;
 import java.lang.reflect.Field;
 import java.lang.reflect.Method;
 import java.lang.reflect.Modifier;
-import java.nio.file.Files;
 import java.nio.file.Path;
-import java.util.List;
 import java.util.StringJoiner;
 import java.util.TreeSet;
 
 /** The face is the document's, whole and with nothing beyond it. */
 final class FaceTest {
-    private static final Path DOCUMENT = Path.of("..", "shared", "DOC.md");
+    static final Path DOCUMENT = Path.of("..", "shared", "DOC.md");
 
     private FaceTest() {
     }
@@ -35,7 +31,7 @@ final class FaceTest {
 
     private static TreeSet<String> dueMethods() {
         TreeSet<String> due = new TreeSet<>();
-        for (String line : lines()) {
+        for (String line : ScriptTest.lines(DOCUMENT)) {
             if (line.startsWith("    public ") && !line.contains(" Runbooker(")) {
                 due.add(withoutNames(line.strip().replace(";", "")));
             }
@@ -46,14 +42,6 @@ final class FaceTest {
     private static String withoutNames(String face) {
         int end = face.indexOf(')') + 1;
         return face.substring(0, end).replaceAll(" \\w+([,)])", "$1") + face.substring(end);
-    }
-
-    private static List<String> lines() {
-        try {
-            return Files.readAllLines(DOCUMENT);
-        } catch (IOException exception) {
-            throw new UncheckedIOException(exception);
-        }
     }
 
     private static TreeSet<String> methods() {

@@ -2,11 +2,12 @@ import java.util.ArrayList;
 import java.util.List;
 
 /**
- * A run that writes as many entries as 512 calls can, or nearly: none of them is lost. Behind the 512th call the answers
- * are free, but still nothing is thrown that the document does not name.
+ * A run that writes as many entries as 512 calls can, or nearly: none of them is lost, up to the 512th call. Behind it
+ * the answers are free, but still nothing is thrown that the document does not name.
  */
 final class LongTest {
-    private static final int QUERIES = 100;
+    private static final List<String> ENTRY_CALLS = List.of("signAt ", "stepAt ", "personAt ", "minuteAt ");
+    private static final int ENTRIES_A_LOOK = 25;
 
     private final List<String> calls = new ArrayList<>();
 
@@ -16,7 +17,8 @@ final class LongTest {
     static void all() {
         LongTest test = new LongTest();
         test.chooseCalls();
-        test.compare();
+        test.lookAtTheLastEntry();
+        test.lookAtAllEntries();
         callOn();
     }
 
@@ -27,7 +29,7 @@ final class LongTest {
             calls.add("addStep 0 1 3 a true");
         }
         calls.add("start");
-        while (calls.size() < Subject.MOST_CALLS - QUERIES - 40) {
+        while (calls.size() < Subject.MOST_CALLS) {
             forAll("begin %d %d", "pass 2");
             forAll("begin %d %d", "pass 2");
             forAll("begin %d %d", "pass 1");
@@ -42,17 +44,38 @@ final class LongTest {
         calls.add(last);
     }
 
-    private void compare() {
+    /** Only as many calls are made that the look at the last entry ends with the 512th. */
+    private void lookAtTheLastEntry() {
         Subject subject = new Subject();
         Model model = new Model();
-        for (String call : calls) {
+        for (String call : calls.subList(0, Subject.MOST_CALLS - ENTRY_CALLS.size())) {
             Check.same("long: " + call, model.answer(call), subject.answer(call));
         }
         int entries = Integer.parseInt(model.answer("entries"));
         Check.same("long: there are more entries than calls", true, entries > Subject.MOST_CALLS);
-        Check.same("long: entries", "" + entries, subject.answer("entries"));
-        for (int entry = entries - 20; entry < entries; entry++) {
-            for (String name : List.of("signAt ", "stepAt ", "personAt ", "minuteAt ")) {
+        look(model, subject, entries - 1, entries);
+    }
+
+    private void lookAtAllEntries() {
+        int most = Subject.MOST_CALLS - ENTRIES_A_LOOK * ENTRY_CALLS.size() - 1;
+        Model model = new Model();
+        for (String call : calls.subList(0, most)) {
+            model.answer(call);
+        }
+        int entries = Integer.parseInt(model.answer("entries"));
+        for (int first = 0; first < entries; first += ENTRIES_A_LOOK) {
+            Subject subject = new Subject();
+            for (String call : calls.subList(0, most)) {
+                subject.answer(call);
+            }
+            Check.same("long: entries", "" + entries, subject.answer("entries"));
+            look(model, subject, first, Math.min(entries, first + ENTRIES_A_LOOK));
+        }
+    }
+
+    private static void look(Model model, Subject subject, int first, int end) {
+        for (int entry = first; entry < end; entry++) {
+            for (String name : ENTRY_CALLS) {
                 Check.same("long: " + name + entry, model.answer(name + entry), subject.answer(name + entry));
             }
         }

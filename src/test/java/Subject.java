@@ -7,6 +7,8 @@ import java.util.Map;
 final class Subject {
     static final int MOST_CALLS = 512;
 
+    private static final int LAST_ENTRIES = 16;
+
     private static final Map<String, Method> METHODS = new HashMap<>();
 
     static {
@@ -21,7 +23,7 @@ final class Subject {
     String answer(String call) {
         String[] words = call.split(" ");
         if (words[0].equals("log")) {
-            return log();
+            return log(0);
         }
         if (words[0].equals("states")) {
             return states();
@@ -64,12 +66,12 @@ final class Subject {
         return word.equals("MAX") ? Integer.MAX_VALUE : Integer.parseInt(word);
     }
 
-    /** The log, an entry as sign, step, person and minute. */
-    private String log() {
+    /** The log from an entry on, an entry as sign, step, person and minute. */
+    private String log(int first) {
         StringBuilder text = new StringBuilder();
         int entries = Integer.parseInt(answer("entries"));
-        for (int entry = 0; entry < entries; entry++) {
-            text.append(entry == 0 ? "" : ", ").append(answer("signAt " + entry)).append(' ');
+        for (int entry = first; entry < entries; entry++) {
+            text.append(entry == first ? "" : ", ").append(answer("signAt " + entry)).append(' ');
             text.append(answer("stepAt " + entry)).append(' ').append(answer("personAt " + entry)).append(' ');
             text.append(answer("minuteAt " + entry));
         }
@@ -99,7 +101,20 @@ final class Subject {
         addAll(text, Integer.parseInt(answer("people")), "isOnDuty", "workOf", "hasRole %d 0", "hasRole %d 3");
         addAll(text, Integer.parseInt(answer("steps")), "labelLength", "restBySweep", "whyNot", "doesGuardHold",
                 "stateOf", "triesOf", "workedOn", "guardReading %d 0", "guardReading %d 1");
-        return text.append(log()).toString();
+        int entries = Integer.parseInt(answer("entries"));
+        return text.append(entries).append(' ').append(log(Math.max(0, entries - LAST_ENTRIES))).toString();
+    }
+
+    /** What the next run begins with; it shows what is told of the steps, which another run hides. */
+    String nextRun() {
+        StringBuilder text = new StringBuilder();
+        for (String call : "pass 240,close,start,states,ready,clock,workedMinutes".split(",")) {
+            text.append(answer(call)).append(' ');
+        }
+        addAll(text, Integer.parseInt(answer("people")), "isOnDuty", "nextStep", "hasRole %d 1", "hasRole %d 2");
+        addAll(text, Integer.parseInt(answer("steps")), "restOf", "whyNot", "labelAt %d 1", "labelAt %d 2",
+                "labelAt %d 3");
+        return text.toString();
     }
 
     private void addAll(StringBuilder text, int count, String... calls) {
