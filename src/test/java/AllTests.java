@@ -5,6 +5,7 @@ final class AllTests {
 
     public static void main(String[] args) {
         run("FaceTest", FaceTest::all);
+        run("LanguageTest", LanguageTest::all);
         run("ScriptTest", ScriptTest::all);
         run("EdgeTest", EdgeTest::all);
         run("WalkTest", WalkTest::all);
