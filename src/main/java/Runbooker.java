@@ -2,7 +2,8 @@ import java.util.NoSuchElementException;
 
 /**
  * A procedure runner for operations: steps need other steps, have guards over readings and need people with roles;
- * tries that fail are repeated, fallbacks step in, shifts are handed over, and steps are undone in reverse.
+ * tries that fail are repeated, fallbacks step in, branches are joined, shifts are handed over, and steps are undone in
+ * reverse.
  */
 public final class Runbooker {
     private static final int ROLES = 4;

@@ -8,8 +8,10 @@ final class AllTests {
         run("LanguageTest", LanguageTest::all);
         run("ScriptTest", ScriptTest::all);
         run("EdgeTest", EdgeTest::all);
+        run("ReadmeTest", ReadmeTest::all);
         run("WalkTest", WalkTest::all);
         run("LongTest", LongTest::all);
+        run("ThrowTest", ThrowTest::all);
         System.out.println(Check.passed() + " passed, " + Check.failed() + " failed");
         if (Check.failed() > 0) {
             System.exit(1);

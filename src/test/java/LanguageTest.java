@@ -24,6 +24,9 @@ final class LanguageTest {
     private static final List<String> FORBIDDEN = List.of("->", "::", "static {", "Exact(", "synchronized", "assert",
             "finally", "catch", "toString", "hashCode", "package", "protected");
 
+    private static final int MOST_LINES = 40;
+
+    private final List<String> indented = ScriptTest.lines(SOURCE);
     private final List<String> code = new ArrayList<>();
 
     private LanguageTest() {
@@ -47,7 +50,7 @@ final class LanguageTest {
 
     /** The source without comments and without what texts and signs hold. */
     private void readCode() {
-        for (String line : ScriptTest.lines(SOURCE)) {
+        for (String line : indented) {
             Check.same("rule 3: signs from 1 to 127 alone in " + line, true, line.chars().allMatch(sign -> sign < 128));
             String bare = line.replaceAll("'.'", "' '").replaceAll("\"[^\"]*\"", "\"\"").replaceAll("//.*", "").strip();
             code.add(bare.startsWith("*") || bare.startsWith("/**") ? "" : bare);
@@ -95,12 +98,33 @@ final class LanguageTest {
         }
     }
 
+    /** A method of a class inside stands four blanks further in than one of the class itself. */
     private void checkLengths() {
-        int length = 0;
-        for (String line : ScriptTest.lines(SOURCE)) {
-            length = line.matches(" {4,8}\\}") || line.isBlank() && length == 0 ? 0 : length + 1;
-            Check.same("rule 11: a method is not too long at " + line, true, length <= 60);
+        int methods = 0;
+        int first = 0;
+        String indent = "    ";
+        for (int line = 0; line < indented.size(); line++) {
+            String text = indented.get(line);
+            if (text.matches("    private static final class \\w+ \\{")) {
+                indent = "        ";
+            } else if (text.matches(indent + "[a-zA-Z].*\\(.*[^;]")) {
+                first = line;
+                methods++;
+            } else if (text.equals(indent + "}")) {
+                Check.same("rule 11: short is the method of " + indented.get(first), true, line - first < MOST_LINES);
+            } else if (text.equals("    }")) {
+                indent = "    ";
+            }
         }
+        Check.same("rule 11: all methods are looked at", true, methods >= countMethods());
+    }
+
+    private static int countMethods() {
+        int count = Runbooker.class.getDeclaredMethods().length;
+        for (Class<?> inside : Runbooker.class.getDeclaredClasses()) {
+            count += inside.getDeclaredMethods().length;
+        }
+        return count;
     }
 
     private static void checkClass(Class<?> type) {
